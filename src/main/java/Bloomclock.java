@@ -1036,17 +1036,14 @@ public final class Bloomclock {
         int leavingHour = NONE;
         int buckets;
         int bouquets;
-        /** What a run of the clock needs: its coins in that run, and whether it is out. */
+        /** What a run of the clock needs: its coins in that run, how late it presses, whether it is out. */
         int purse;
+        int late;
         boolean isOut;
 
         Buyer(int number, int latency) {
             this.number = number;
             this.latency = latency;
-        }
-
-        int delay() {
-            return Math.max(0, latency - evened);
         }
 
         int numberOf(int what) {
@@ -1171,6 +1168,7 @@ public final class Bloomclock {
             for (int i = 0; i < buyers.size(); i++) {
                 Buyer each = buyers.get(i);
                 each.purse = each.coins;
+                each.late = Math.max(0, each.latency - each.evened);
                 each.isOut = false;
             }
             for (int i = 0; i < orders.size(); i++) {
@@ -1226,7 +1224,7 @@ public final class Bloomclock {
         }
 
         private int stampOf(Order each) {
-            return start - each.limit + each.buyer.delay();
+            return start - each.limit + each.buyer.late;
         }
 
         private void take(Order by, int taken, int pressed) {

@@ -26,6 +26,7 @@ public final class PromisesTest {
             is(what, call.made(), "throws " + due.getSimpleName());
         } catch (RuntimeException e) {
             is(what, e.getClass().getSimpleName(), due.getSimpleName());
+            is(what + " is thrown by the class itself", e.getStackTrace()[0].getClassName(), "Bloomclock");
         }
         is(what + " changes nothing", hall.digest(), before);
     }
@@ -238,6 +239,65 @@ public final class PromisesTest {
         is("age", hall.ofCrop(0, 5), 3);
         lifeEndsAtZero();
         theRail();
+        lifeOnTheRail();
+        lateLeavers();
+    }
+
+    private static void lifeOnTheRail() {
+        Bloomclock hall = withLot(10);
+        hall.pass(28, 0);
+        hall.buyer(0);
+        hall.speed(1);
+        for (int i = 0; i < 4; i++) {
+            hall.presell(0, 0, 1, 1);
+        }
+        hall.presell(hall.cut(0, 1), 0, 1, 1);
+        is("the least life", hall.many(15), 6);
+        hall.pass(1, 0);
+        is("3 an hour", hall.many(15), 3);
+        hall.pass(1, 0);
+        is("to 0", hall.many(15), 0);
+        is("three are left", hall.many(7), 3);
+        hall.pass(1, 0);
+        is("0 at least", hall.many(15), 0);
+        Bloomclock first = withLot(10);
+        first.buyer(0);
+        first.buyer(0);
+        first.presell(0, 0, 1, 1);
+        first.leave(1, 20);
+        first.speed(3);
+        for (int i = 0; i < 3; i++) {
+            first.presell(0, 1, 1, 1);
+        }
+        first.pass(1, 0);
+        is("the first one loses life too", first.many(15), 87);
+    }
+
+    private static void lateLeavers() {
+        Bloomclock hall = withLot(10);
+        hall.buyer(0);
+        hall.buyer(0);
+        hall.buyer(0);
+        hall.speed(1);
+        hall.leave(0, 9998);
+        hall.leave(1, 9999);
+        hall.presell(0, 2, 1, 1);
+        hall.presell(0, 1, 1, 1);
+        hall.presell(0, 0, 1, 1);
+        hall.pass(1, 0);
+        is("9998", hall.ofBuyer(0, 4), 1);
+        hall.pass(1, 0);
+        is("9999 is ahead of none", hall.ofBuyer(1, 4), 1);
+        Bloomclock inOrder = withLot(10);
+        inOrder.buyer(0);
+        inOrder.buyer(0);
+        inOrder.speed(1);
+        inOrder.leave(0, 20);
+        inOrder.leave(1, 30);
+        inOrder.presell(0, 0, 1, 1);
+        inOrder.presell(0, 1, 1, 1);
+        inOrder.pass(1, 0);
+        is("the first one on the rail leaves first", inOrder.ofBuyer(0, 4), 1);
     }
 
     private static void lifeEndsAtZero() {
@@ -389,7 +449,8 @@ public final class PromisesTest {
         refuses("no buyer", hall, NO_SUCH, () -> hall.even(0, 10));
         hall.buyer(7);
         is("even", hall.even(0, 9), 0);
-        is("even", hall.even(0, 4), 9);
+        is("even", hall.even(0, 0), 9);
+        is("even", hall.even(0, 4), 0);
         is("evened", hall.ofBuyer(0, 2), 4);
         refuses("no buyer -1", hall, NO_SUCH, () -> hall.even(-1, 0));
         refuses("evened by -1", hall, WRONG, () -> hall.even(0, -1));
@@ -462,6 +523,10 @@ public final class PromisesTest {
         is("trolleys", hall.many(7), 2);
         is("what the orders want", hall.wants(0) + hall.wants(1), 0);
         theSmallestOrder();
+        theSmallestBuyer();
+        oneStem();
+        theDepositCounts();
+        anotherCultivar();
         theMinimum();
         oneIsOut();
         whatFits();
@@ -486,6 +551,76 @@ public final class PromisesTest {
         is("clock", hall.clock(), 2);
         is("from 99", hall.sale(1, 3), 99);
         is("to 1", hall.sale(0, 3), 1);
+    }
+
+    private static void theSmallestBuyer() {
+        Bloomclock hall = withLot(30);
+        hall.buyer(0);
+        hall.buyer(0);
+        order(hall, 1, 40, 7);
+        order(hall, 0, 39, 8);
+        order(hall, 0, 40, 9);
+        order(hall, 0, 40, 3);
+        hall.bring(0, 90, 1);
+        is("clock", hall.clock(), 27);
+        int[] due = {9, 3, 7, 8};
+        for (int i = 0; i < 4; i++) {
+            is("the smallest stamp, buyer, order", hall.sale(3 - i, 2), due[i]);
+        }
+    }
+
+    private static void oneStem() {
+        Bloomclock hall = withLot(2);
+        hall.buyer(0);
+        order(hall, 0, 40, 1);
+        order(hall, 0, 30, 2);
+        hall.bring(0, 90, 1);
+        is("the one stem that is left is sold", hall.clock(), 2);
+        is("sold", hall.ofLot(0, 7), 2);
+        int lot = hall.cut(0, 2);
+        hall.presell(lot, 0, 1, 1);
+        is("with one stem it is held", hall.ofLot(lot, 7), 0);
+        hall.pass(1, 0);
+        is("one stem has a life", hall.ofLot(lot, 4), 87);
+    }
+
+    /** What a buyer pays of deposit in a run of the clock, it has not for the next sale of that run. */
+    private static void theDepositCounts() {
+        is("2000 - 41 * 48 - 3 * 2 pay one for 26", soldBehind41For48(26), 42);
+        is("2000 - 41 * 48 - 3 * 2 pay none for 27", soldBehind41For48(27), 41);
+        Bloomclock hall = withLot(40);
+        hall.buyer(0);
+        order(hall, 0, 99, 1);
+        order(hall, 0, 98, 1);
+        order(hall, 0, 97, 1);
+        order(hall, 0, 74, 37);
+        hall.bring(0, 90, 1);
+        is("no deposit without buckets: 1702 pay 23 for 74", hall.clock(), 3 + 23);
+        is("all is paid", hall.ofBuyer(0, 0), 0);
+        is("two buckets", hall.ofBuyer(0, 7), 2);
+    }
+
+    private static int soldBehind41For48(int limit) {
+        Bloomclock hall = withLot(80);
+        hall.buyer(0);
+        order(hall, 0, 48, 41);
+        order(hall, 0, limit, 30);
+        hall.bring(0, 90, 1);
+        return hall.clock();
+    }
+
+    private static void anotherCultivar() {
+        Bloomclock hall = grown();
+        hall.cut(0, 10);
+        hall.cut(2, 10);
+        hall.buyer(0);
+        hall.order(0, 0, 2, 0, 0, 9, 5);
+        hall.order(0, 2, 2, 0, 0, 8, 6);
+        is("would fetch", hall.wouldFetch(1), 8);
+        hall.bring(1, 9, 1);
+        is("clock", hall.clock(), 6);
+        is("would fetch", hall.wouldFetch(0), 9);
+        is("would fetch", hall.wouldFetch(1), -1);
     }
 
     private static void theMinimum() {
@@ -759,6 +894,8 @@ public final class PromisesTest {
         refuses("more than it has", hall, REFUSED, () -> hall.back(0, 2));
         refuses("very many", hall, REFUSED, () -> hall.back(0, Integer.MAX_VALUE));
         is("back", hall.back(0, 1), 58);
+        is("all deposits are back", hall.ofBuyer(0, 0), 1940);
+        is("the fee is left", hall.many(9), 3);
     }
 
     private static void p20Clear() {
@@ -997,6 +1134,8 @@ public final class PromisesTest {
         hall.undo();
         hall.undo();
         is("all is undone", hall.meanPrice(), 0.0);
+        hall.presell(0, 0, 1, 7);
+        is("of one stem", hall.meanPrice(), 7.0);
     }
 
     private static void p31WouldFetch() {
@@ -1085,6 +1224,9 @@ public final class PromisesTest {
         is("61 by 3", hall.readyIn(1), 21);
         hall.lamps(0, 0);
         is("never", hall.readyIn(0), -1);
+        hall.lamps(0, 1);
+        is("61 by 1", hall.readyIn(1), 61);
+        hall.lamps(0, 0);
         hall.pass(1, 1);
         is("it is", hall.readyIn(0), 0);
         hall.pass(1, 0);
