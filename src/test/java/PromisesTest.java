@@ -1,61 +1,5 @@
 /** Each promise of the document: ordinary inputs, the edges that it names, and wrong inputs. */
-public final class PromisesTest {
-    private static final Class<?> NO_SUCH = IndexOutOfBoundsException.class;
-    private static final Class<?> WRONG = IllegalArgumentException.class;
-    private static final Class<?> REFUSED = IllegalStateException.class;
-
-    private interface Call {
-        Object made();
-    }
-
-    private static int checks;
-    private static int failures;
-
-    private static void is(String what, Object got, Object due) {
-        checks++;
-        if (!got.equals(due)) {
-            failures++;
-            System.out.println(what + ": answered " + got + ", due is " + due);
-        }
-    }
-
-    /** Checks that a call throws just that class, and that the hall stays as it was. */
-    private static void refuses(String what, Bloomclock hall, Class<?> due, Call call) {
-        long before = hall.digest();
-        try {
-            is(what, call.made(), "throws " + due.getSimpleName());
-        } catch (RuntimeException e) {
-            is(what, e.getClass().getSimpleName(), due.getSimpleName());
-            is(what + " is thrown by the class itself", e.getStackTrace()[0].getClassName(), "Bloomclock");
-        }
-        is(what + " changes nothing", hall.digest(), before);
-    }
-
-    /** A hall with one grower and crops of 200 plants of each cultivar, all READY, the last one at its hour. */
-    private static Bloomclock grown() {
-        Bloomclock hall = new Bloomclock();
-        hall.grower();
-        hall.plant(0, 0, 200);
-        hall.plant(0, 1, 200);
-        hall.plant(0, 2, 200);
-        hall.pass(24, 5);
-        return hall;
-    }
-
-    /** A hall at HOUR 12 with a LOT 0 of so many fresh stems of the cultivar 0 (LIFE 90). */
-    private static Bloomclock withLot(int stems) {
-        Bloomclock hall = new Bloomclock();
-        hall.grower();
-        hall.plant(0, 0, 200);
-        hall.pass(12, 5);
-        hall.cut(0, stems);
-        return hall;
-    }
-
-    private static void order(Bloomclock hall, int buyer, int limit, int stems) {
-        hall.order(buyer, 0, 2, 0, 0, limit, stems);
-    }
-
+public final class PromisesTest extends Checks {
     private static void p1NewObject() {
         Bloomclock hall = new Bloomclock();
         int[] due = {0, 0, 0, 0, 0, 0, 0, 0, 60, 0, 0, 0, 500, 500, 500, -1};
@@ -1348,9 +1292,6 @@ public final class PromisesTest {
         p33ReadyIn();
         p34LampsFor();
         p35Digest();
-        System.out.println(checks + " checks, " + failures + " failed");
-        if (failures > 0) {
-            System.exit(1);
-        }
+        ends();
     }
 }
