@@ -19,6 +19,10 @@ abstract class Checks {
         }
     }
 
+    static int checksMade() {
+        return checks;
+    }
+
     /** Checks that a call throws just that class, and that the hall stays as it was. */
     static void refuses(String what, Bloomclock hall, Class<?> due, Call call) {
         long before = hall.digest();

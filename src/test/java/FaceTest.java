@@ -31,7 +31,7 @@ public final class FaceTest {
     }
 
     /** A method as the document writes it, without the names of its arguments. */
-    private static String written(Method method) {
+    static String written(Method method) {
         List<String> types = new ArrayList<>();
         for (Class<?> type : method.getParameterTypes()) {
             types.add(type.getSimpleName());
@@ -44,11 +44,16 @@ public final class FaceTest {
                 + String.join(", ", types) + ")" + (thrown.isEmpty() ? "" : " throws " + String.join(", ", thrown));
     }
 
+    /** A line of the document's face without the names of its arguments. */
+    static String withoutNames(String line) {
+        return line.trim().replace(";", "").replaceAll("(int|boolean) \\w+([,)])", "$1$2");
+    }
+
     private static Set<String> faceOfDocument() throws IOException {
         Set<String> face = new TreeSet<>();
         for (String line : Files.readAllLines(DOCUMENT)) {
             if (line.startsWith("    public ") && !line.contains("Bloomclock(")) {
-                face.add(line.trim().replace(";", "").replaceAll("(int|boolean) \\w+([,)])", "$1$2"));
+                face.add(withoutNames(line));
             }
         }
         return face;
